@@ -101,9 +101,6 @@ public final class RankHouse {
     }
 
     public int other(int u, int what, int k) {
-        if (!graph.isNode(u) || k < 0) {
-            return NONE;
-        }
         if (what == FROM) {
             return graph.target(u, k);
         }
@@ -241,7 +238,7 @@ public final class RankHouse {
         }
     }
 
-    // The document's limits keep every divisor above 0; the test is here so that none need be trusted.
+    // DIV. The divisor is 0 for the share of a BARE NODE alone, and that share is nothing.
     private static long quotient(long a, long b) {
         return b > 0 ? a / b : 0;
     }
@@ -509,9 +506,9 @@ public final class RankHouse {
         private long[] next = new long[MOST_NODES];
         private int p = 17;
         private int q = 20;
-        private int steps = 0;
-        private long change = 2 * ONE;
-        private long error = 2 * ONE;
+        private int steps;
+        private long change;
+        private long error;
 
         void begin(Graph graph) {
             int n = graph.nodes;
