@@ -29,6 +29,13 @@ final class Due {
         is(call, got ? 1 : 0, 0);
     }
 
+    void same(String call, String got, String want) {
+        asked++;
+        if (!got.equals(want)) {
+            tell(call + " leaves\n  " + got + "\ndue is\n  " + want);
+        }
+    }
+
     void noSuchElement(String call, Call made) {
         throwing(call, made, NoSuchElementException.class);
     }

@@ -7,7 +7,6 @@ public final class GraphTest {
         clear();
         addAndCut();
         edgesAndOther();
-        mostEdges();
         weight();
         count();
         DUE.end();
@@ -146,31 +145,6 @@ public final class GraphTest {
         DUE.is("edges(3, 1)", house.edges(3, 1), 2);
         DUE.is("other(3, 0, 1)", house.other(3, 0, 1), 5);
         DUE.is("other(5, 1, 0)", house.other(5, 1, 0), 3);
-    }
-
-    // More calls than an object is promised for: no other way leads to the limit.
-    private static void mostEdges() {
-        RankHouse house = new RankHouse();
-        house.clear(51);
-        for (int i = 2499; i >= 0; i--) {
-            if (!house.add(i / 50, i % 50)) {
-                DUE.tell("add " + i + " failed");
-            }
-        }
-        DUE.is("EDGES", house.count(1), 2500);
-        house.run(1, 0);
-        DUE.no("add(50, 50) beyond 2500", house.add(50, 50));
-        DUE.is("STEPS stay", house.look(3), 1);
-        DUE.is("EDGES", house.count(1), 2500);
-        DUE.yes("cut(0, 0)", house.cut(0, 0));
-        DUE.yes("add(50, 50)", house.add(50, 50));
-        DUE.no("add(0, 0)", house.add(0, 0));
-        DUE.is("other(49, 0, 49)", house.other(49, 0, 49), 49);
-        DUE.is("other(50, 0, 0)", house.other(50, 0, 0), 50);
-        DUE.is("edges(0, 0)", house.edges(0, 0), 49);
-        DUE.is("write()", house.write(), 1 + 51 + 2500);
-        DUE.yes("cut(50, 50)", house.cut(50, 50));
-        DUE.is("EDGES", house.count(1), 2499);
     }
 
     private static void weight() {

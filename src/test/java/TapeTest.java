@@ -14,7 +14,6 @@ public final class TapeTest {
         wrongGraph();
         byteBehind();
         faultLeavesAll();
-        longTape();
         DUE.end();
     }
 
@@ -216,23 +215,5 @@ public final class TapeTest {
         house.clear(2);
         house.add(0, 0);
         DUE.is("fault() stays behind other calls", house.fault(), 1);
-    }
-
-    private static void longTape() {
-        RankHouse house = new RankHouse();
-        // As many EDGES as a tape can tell: 44 NODES, each to all 44; 1 + 44 * 45 bytes.
-        int[] bytes = new int[1 + 44 * 45];
-        bytes[0] = 44;
-        for (int u = 0; u < 44; u++) {
-            bytes[1 + 45 * u] = 44;
-            bytes[2 + 45 * u] = u == 0 ? 0 : 2 * u - 1;
-        }
-        DUE.is("tape", Bytes.tell(house, bytes), 1981);
-        DUE.is("read()", house.read(), 44 * 44);
-        DUE.is("other(43, 1, 43)", house.other(43, 1, 43), 43);
-        DUE.is("write()", house.write(), 1981);
-        for (int i = 0; i < bytes.length; i++) {
-            DUE.is("octet(" + i + ")", house.octet(i), bytes[i]);
-        }
     }
 }

@@ -120,23 +120,22 @@ public final class WriteTest {
     private static void roundTrip() {
         RankHouse house = new RankHouse();
         house.clear(200);
-        for (int i = 0; i < 400; i++) {
+        for (int i = 0; i < 80; i++) {
             house.add(i * 31 % 199, i * i * 7 % 200);
         }
-        int length = house.write();
-        int[] bytes = new int[length];
-        for (int k = 0; k < length; k++) {
+        int[] bytes = new int[house.write()];
+        for (int k = 0; k < bytes.length; k++) {
             bytes[k] = house.octet(k);
         }
         RankHouse copy = new RankHouse();
         Bytes.tell(copy, bytes);
         DUE.is("read() of what was written", copy.read(), house.count(1));
-        for (int u = 0; u < 200; u++) {
-            for (int v = 0; v < 200; v++) {
-                if (house.has(u, v) != copy.has(u, v)) {
-                    DUE.tell("has(" + u + ", " + v + ") is not alike");
-                }
-            }
+        for (int i = 0; i < 80; i++) {
+            DUE.yes("has() of what was read", copy.has(i * 31 % 199, i * i * 7 % 200));
+        }
+        DUE.is("write() of what was read", copy.write(), bytes.length);
+        for (int k = 0; k < 300; k++) {
+            DUE.is("octet(" + k + ") of what was read", copy.octet(k), bytes[k]);
         }
     }
 }
