@@ -35,7 +35,7 @@ public final class RankHouse {
     private final Graph graph = new Graph();
 
     public RankHouse() {
-        ranks.begin(graph);
+        ranks.begin(graph.nodes);
     }
 
     public int feed(int a, int b, int c, int d, int e) {
@@ -77,7 +77,7 @@ public final class RankHouse {
             return false;
         }
         graph.reset(n);
-        ranks.begin(graph);
+        ranks.begin(graph.nodes);
         return true;
     }
 
@@ -128,7 +128,7 @@ public final class RankHouse {
     }
 
     public void again() {
-        ranks.begin(graph);
+        ranks.begin(graph.nodes);
     }
 
     public long rank(int u) throws NoSuchElementException {
@@ -218,7 +218,7 @@ public final class RankHouse {
 
     private boolean beginIf(boolean done) {
         if (done) {
-            ranks.begin(graph);
+            ranks.begin(graph.nodes);
         }
         return done;
     }
@@ -510,8 +510,7 @@ public final class RankHouse {
         private long change;
         private long error;
 
-        void begin(Graph graph) {
-            int n = graph.nodes;
+        void begin(int n) {
             long each = quotient(ONE, n);
             long left = ONE - each * n;
             for (int u = 0; u < n; u++) {
